@@ -1,0 +1,13 @@
+/** Runs every test of the project; the exit code is 1 if one fails. */
+public final class AllTests {
+    private AllTests() {
+    }
+
+    public static void main(String[] args) {
+        RandomRuns.runAll(args.length > 0 ? Integer.parseInt(args[0]) : 300);
+        Check.tell();
+        if (Check.failures() > 0) {
+            System.exit(1);
+        }
+    }
+}

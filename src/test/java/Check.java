@@ -1,0 +1,52 @@
+/** Counts what is as due and what is not. */
+final class Check {
+    interface Call {
+        void go();
+    }
+
+    private static int passed = 0;
+    private static int failed = 0;
+
+    private Check() {
+    }
+
+    static void due(String what, long got, long want) {
+        note(what, Long.toString(got), Long.toString(want));
+    }
+
+    static void due(String what, boolean got, boolean want) {
+        note(what, Boolean.toString(got), Boolean.toString(want));
+    }
+
+    static void due(String what, double got, double want) {
+        note(what, Double.toString(got), Double.toString(want));
+    }
+
+    /** The very exception is due, not one of a class below it. */
+    static void dueThrow(String what, Class<? extends RuntimeException> want, Call call) {
+        String got = "nothing";
+        try {
+            call.go();
+        } catch (RuntimeException e) {
+            got = e.getClass().getName();
+        }
+        note(what, got, want.getName());
+    }
+
+    private static void note(String what, String got, String want) {
+        if (got.equals(want)) {
+            passed++;
+        } else {
+            failed++;
+            System.out.println(what + " answered " + got + ", due is " + want);
+        }
+    }
+
+    static int failures() {
+        return failed;
+    }
+
+    static void tell() {
+        System.out.println(passed + " passed, " + failed + " failed");
+    }
+}

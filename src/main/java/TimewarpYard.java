@@ -13,6 +13,8 @@ public final class TimewarpYard {
     private static final int KINDS = 4;
     private static final int LATEST_AFTER = 99;
     private static final int LATEST = 200;
+    // What an event sends is later than itself: each message told leads to one event a time at most.
+    private static final int MOST_EVENTS = MOST_TOLD * (LATEST + 1);
     private static final int WIDEST_WINDOW = 200;
     private static final int MOST_BETWEEN_SAVES = 20;
     private static final int MOST_TICKS = 100;
@@ -433,6 +435,7 @@ public final class TimewarpYard {
             return new Event();
         }
         spare.takeOut(event);
+        event.isRemembering = false;
         return event;
     }
 
@@ -446,12 +449,6 @@ public final class TimewarpYard {
         copy.value = model.value;
         copy.isBack = model.isBack;
         return copy;
-    }
-
-    private void release(Event event) {
-        event.isSaved = false;
-        event.isRemembering = false;
-        spare.append(event);
     }
 
     /** Above every time if nothing waits or is under way. */
@@ -500,8 +497,8 @@ public final class TimewarpYard {
         Event stray = actor.strayOnes.firstLike(event);
         if (stray != null) {
             actor.strayOnes.takeOut(stray);
-            release(stray);
-            release(event);
+            spare.append(stray);
+            spare.append(event);
             return;
         }
         Event from = actor.firstKeptBehind(event);
@@ -525,8 +522,8 @@ public final class TimewarpYard {
         if (gone.isRemembering) {
             send(actor, gone, gone.rememberedValue, gone.rememberedCount, true);
         }
-        release(gone);
-        release(back);
+        spare.append(gone);
+        spare.append(back);
     }
 
     /** Goes back to ahead of a kept event; answers how many wait again. */
@@ -535,8 +532,8 @@ public final class TimewarpYard {
             if (!actor.isSender(event, horizon)) {
                 continue;
             }
-            long value = event.behind.state;
-            int count = event.behind.sent - 1;
+            long value = event.state;
+            int count = event.sent - 1;
             if (isRemembering) {
                 event.isRemembering = true;
                 event.rememberedValue = value;
@@ -619,7 +616,8 @@ public final class TimewarpYard {
             current.sent++;
             event.isRemembering = false;
         }
-        event.behind.become(current);
+        event.keep(current);
+        event.isSaved = false;
         actor.keptOnes.append(event);
         event.isSaved = actor.countUnsaved() >= actor.each;
         doneCount++;
@@ -646,13 +644,13 @@ public final class TimewarpYard {
             return;
         }
         actor.keptOnes.takeOut(event);
-        actor.ahead.become(event.behind);
+        actor.ahead.becomeThatBehind(event);
         actor.lastCommitted = event.time;
         latestCommitted = Math.max(latestCommitted, event.time);
         if (actor.ruleOf(event.kind).isPrinting) {
-            printout.add(event.behind.state, event.time);
+            printout.add(event.state, event.time);
         }
-        release(event);
+        spare.append(event);
     }
 
     /** Runs all that was told as one queue, once for the same messages. */
@@ -667,8 +665,7 @@ public final class TimewarpYard {
         for (Event told = outside.first; told != null; told = told.next) {
             queue.putInOrder(copyOf(told));
         }
-        // What an event sends is later than itself, so each message told leads to one event a time at most.
-        for (int left = queuedCount * (LATEST + 1); left > 0 && queue.first != null; left--) {
+        for (int left = MOST_EVENTS; left > 0 && queue.first != null; left--) {
             runQueued(queue.first);
         }
     }
@@ -677,13 +674,13 @@ public final class TimewarpYard {
         queue.takeOut(event);
         Actor actor = findActor(event.process);
         if (actor == null) {
-            release(event);
+            spare.append(event);
             return;
         }
         Rule rule = actor.ruleOf(event.kind);
         actor.alone.work(rule.work, event.value);
         if (!actor.isSender(event, horizon)) {
-            release(event);
+            spare.append(event);
             return;
         }
         event.becomeSent(event, rule, actor.alone.state, actor.alone.sent);
@@ -744,6 +741,12 @@ public final class TimewarpYard {
             sent = other.sent;
         }
 
+        void becomeThatBehind(Event event) {
+            state = event.state;
+            stream = event.stream;
+            sent = event.sent;
+        }
+
         void work(char work, long value) {
             if (work == '+') {
                 state += value;
@@ -773,7 +776,10 @@ public final class TimewarpYard {
         boolean isRemembering = false;
         long rememberedValue = 0;
         int rememberedCount = 0;
-        final Condition behind = new Condition();
+        // Those behind it, as it is kept.
+        long state = 0;
+        long stream = 0;
+        int sent = 0;
         Event next = null;
         Event previous = null;
 
@@ -785,6 +791,12 @@ public final class TimewarpYard {
             process = rule.target;
             kind = rule.next;
             value = sentValue;
+        }
+
+        void keep(Condition behind) {
+            state = behind.state;
+            stream = behind.stream;
+            sent = behind.sent;
         }
 
         int compareWith(Event other) {
@@ -949,7 +961,7 @@ public final class TimewarpYard {
         long stateAhead(int time) {
             long state = ahead.state;
             for (Event event = keptOnes.first; event != null && event.time < time; event = event.next) {
-                state = event.behind.state;
+                state = event.state;
             }
             return state;
         }
@@ -983,13 +995,16 @@ public final class TimewarpYard {
             for (int left = keptOnes.size; left > 0 && !isThere && keptOnes.last != null; left--) {
                 Event event = keptOnes.last;
                 keptOnes.takeOut(event);
-                event.isSaved = false;
                 waitingOnes.prepend(event);
                 count++;
                 isThere = event == from;
             }
             Event last = keptOnes.last;
-            current.become(last == null ? ahead : last.behind);
+            if (last == null) {
+                current.become(ahead);
+            } else {
+                current.becomeThatBehind(last);
+            }
             return count;
         }
 
@@ -1020,7 +1035,7 @@ public final class TimewarpYard {
         }
 
         Chain slotOf(int due) {
-            return slots[due & SLOTS - 1];
+            return slots[due & (SLOTS - 1)];
         }
 
         void put(Event event, int due) {
@@ -1047,9 +1062,6 @@ public final class TimewarpYard {
 
         /** Above every time if there is none. */
         int leastTime() {
-            if (messages + backs == 0) {
-                lowest = LATEST + 1;
-            }
             while (lowest >= 0 && lowest < counts.length && counts[lowest] == 0) {
                 lowest++;
             }
@@ -1063,6 +1075,9 @@ public final class TimewarpYard {
         int size = 0;
 
         void add(long state, int time) {
+            if (size >= MOST_EVENTS) {
+                return;
+            }
             if (size >= states.length || size >= times.length) {
                 states = Arrays.copyOf(states, 2 * size + 1);
                 times = Arrays.copyOf(times, 2 * size + 1);

@@ -4,6 +4,10 @@ public final class AllTests {
     }
 
     public static void main(String[] args) {
+        TellingTests.runAll();
+        AskingTests.runAll();
+        TermsTests.runAll();
+        InsideTests.runAll();
         RandomRuns.runAll(args.length > 0 ? Integer.parseInt(args[0]) : 300);
         Check.tell();
         if (Check.failures() > 0) {

@@ -22,13 +22,15 @@ final class Check {
         note(what, Double.toString(got), Double.toString(want));
     }
 
-    /** The very exception is due, not one of a class below it. */
+    /** The very exception is due, not one of a class below it, and thrown by the class itself, not by what it calls. */
     static void dueThrow(String what, Class<? extends RuntimeException> want, Call call) {
         String got = "nothing";
         try {
             call.go();
         } catch (RuntimeException e) {
-            got = e.getClass().getName();
+            StackTraceElement[] trace = e.getStackTrace();
+            boolean isOwn = trace.length > 0 && trace[0].getClassName().equals("TimewarpYard");
+            got = e.getClass().getName() + (isOwn ? "" : " of another class");
         }
         note(what, got, want.getName());
     }

@@ -61,8 +61,9 @@ final class RandomRuns {
             slow.horizon = 1 + below(200);
             due("horizon", yard.horizon(slow.horizon), 200);
         }
-        for (int i = below(4 * processes + 1); i > 0; i--) {
-            tellRule(below(processes), below(4));
+        boolean isDense = below(2) == 0;
+        for (int i = isDense ? 8 * processes : below(4 * processes + 1); i > 0; i--) {
+            tellRule(below(processes), below(4), isDense ? 5 : 40);
         }
         for (int i = below(6); i > 0; i--) {
             tellDelay();
@@ -75,11 +76,11 @@ final class RandomRuns {
         }
     }
 
-    private void tellRule(int process, int kind) {
+    private void tellRule(int process, int kind, int latestAfter) {
         SlowYard.Being being = slow.beings.get(process);
         char work = WORKS[below(5)];
         int target = below(slow.beings.size() + 1) - 1;
-        int after = 1 + (below(3) == 0 ? below(99) : below(15));
+        int after = 1 + (below(9) == 0 ? below(99) : below(latestAfter));
         int next = below(4);
         due("rule", yard.rule(process, kind, work, target, after, next), being.work[kind]);
         being.work[kind] = work;
@@ -104,16 +105,18 @@ final class RandomRuns {
         int machine = below(slow.machines.size());
         int choice = below(40);
         if (choice < 14) {
-            int ticks = choice < 10 ? 1 + below(3) : 1 + below(20);
+            int ticks = choice < 13 ? 1 : 1 + below(slow.told.size() == 40 ? 100 : 10);
             due("tick", yard.tick(ticks), slow.tick(ticks));
-        } else if (choice < 25) {
+        } else if (choice < 20) {
             tellMessage(process);
-        } else if (choice < 27) {
+        } else if (choice < 22) {
+            refuse(process, machine);
+        } else if (choice < 23) {
             due("commit", yard.commit(), slow.commit());
-        } else if (choice < 29) {
+        } else if (choice < 27) {
             due("move", yard.move(process, machine), slow.beings.get(process).machine);
             slow.beings.get(process).machine = machine;
-        } else if (choice < 31) {
+        } else if (choice < 28) {
             due("fault", yard.fault(machine), slow.fault(machine));
         } else if (choice < 33) {
             tellDelay();
@@ -145,6 +148,33 @@ final class RandomRuns {
             due("lazy", yard.lazy(machine, is) ? 1 : 0, it[2]);
             it[2] = is ? 1 : 0;
         }
+    }
+
+    /** Calls that throw, and change nothing. */
+    private void refuse(int process, int machine) {
+        int none = below(2) == 0 ? -1 - below(3) : 8 + below(3);
+        int wrong = below(2) == 0 ? -1 - below(3) : 1000 + below(3);
+        switch (below(9)) {
+            case 0: refuseIndex(() -> yard.message(none, 0, 0, 0L)); break;
+            case 1: refuseIndex(() -> yard.move(none, machine)); break;
+            case 2: refuseIndex(() -> yard.move(process, none)); break;
+            case 3: refuseIndex(() -> yard.fault(none)); break;
+            case 4: refuseNumber(() -> yard.message(process, wrong, 0, 0L)); break;
+            case 5: refuseNumber(() -> yard.tick(wrong)); break;
+            case 6: refuseNumber(() -> yard.saves(process, wrong)); break;
+            case 7: refuseNumber(() -> yard.room(machine, wrong)); break;
+            default: refuseNumber(() -> yard.delay(machine, machine, wrong)); break;
+        }
+    }
+
+    private void refuseIndex(Check.Call call) {
+        calls++;
+        Check.dueThrow(name + " call " + calls, IndexOutOfBoundsException.class, call);
+    }
+
+    private void refuseNumber(Check.Call call) {
+        calls++;
+        Check.dueThrow(name + " call " + calls, IllegalArgumentException.class, call);
     }
 
     private void tellMessage(int process) {

@@ -1,0 +1,102 @@
+import com.sun.management.ThreadMXBean;
+import java.lang.management.ManagementFactory;
+import java.lang.reflect.Field;
+import java.util.ArrayList;
+import java.util.Random;
+
+/** What the face cannot show: that isTrue sees what is wrong, and how much is made in a long run. */
+final class InsideTests {
+    private static final long MOST_BYTES = 8_000_000L;
+
+    private InsideTests() {
+    }
+
+    static void runAll() {
+        try {
+            stateIsNotThatOfOneQueue();
+            keptOutOfOrder();
+            keptBehindOneThatWaits();
+            printedOutOfOrder();
+        } catch (ReflectiveOperationException e) {
+            throw new IllegalStateException(e);
+        }
+        littleIsMade();
+    }
+
+    private static Object get(Object from, String name) throws ReflectiveOperationException {
+        Field field = from.getClass().getDeclaredField(name);
+        field.setAccessible(true);
+        return field.get(from);
+    }
+
+    private static void set(Object in, String name, Object value) throws ReflectiveOperationException {
+        Field field = in.getClass().getDeclaredField(name);
+        field.setAccessible(true);
+        field.set(in, value);
+    }
+
+    private static Object actor(TimewarpYard yard) throws ReflectiveOperationException {
+        return ((ArrayList<?>) get(yard, "actors")).get(0);
+    }
+
+    private static void stateIsNotThatOfOneQueue() throws ReflectiveOperationException {
+        TimewarpYard yard = Yards.alone(9, 10, 20);
+        yard.tick(1);
+        set(get(actor(yard), "current"), "state", 5L);
+        Check.due("P42 another state", yard.isTrue(), false);
+        yard.message(0, 30, 0, 0L);
+        Check.due("P42 not while something is under way", yard.isTrue(), true);
+    }
+
+    private static void keptOutOfOrder() throws ReflectiveOperationException {
+        TimewarpYard yard = Yards.alone(9, 10, 20);
+        yard.tick(1);
+        set(get(get(actor(yard), "keptOnes"), "first"), "time", 21);
+        Check.due("P42 kept out of order", yard.isTrue(), false);
+    }
+
+    private static void keptBehindOneThatWaits() throws ReflectiveOperationException {
+        TimewarpYard yard = Yards.alone(1, 10, 20);
+        yard.tick(1);
+        set(get(get(actor(yard), "waitingOnes"), "first"), "time", 9);
+        Check.due("P42 kept behind one that waits", yard.isTrue(), false);
+    }
+
+    private static void printedOutOfOrder() throws ReflectiveOperationException {
+        TimewarpYard yard = Yards.apart(1, 9);
+        yard.prints(0, 0, true);
+        yard.message(0, 10, 0, 1L);
+        yard.message(0, 20, 0, 1L);
+        yard.tick(1);
+        yard.commit();
+        ((int[]) get(get(yard, "printout"), "times"))[0] = 21;
+        Check.due("P42 printed out of order", yard.isTrue(), false);
+    }
+
+    /** Rows are used again: a run of all calls, with faults and ways of all lengths, fits in one small room. */
+    private static void littleIsMade() {
+        ThreadMXBean threads = (ThreadMXBean) ManagementFactory.getThreadMXBean();
+        long self = Thread.currentThread().getId();
+        Random random = new Random(7);
+        long before = threads.getThreadAllocatedBytes(self);
+        TimewarpYard yard = Yards.apart(4, 9);
+        for (int i = 0; i < 16; i++) {
+            yard.rule(i / 4, i % 4, "+-*=?".charAt(i % 5), random.nextInt(4), 1, random.nextInt(4));
+            yard.delay(i / 4, i % 4, 1 + random.nextInt(20));
+        }
+        for (int i = 0; i < 40; i++) {
+            yard.message(i % 4, i % 3, i % 4, i);
+        }
+        for (int i = 0; i < 400; i++) {
+            if (i % 8 == 0) {
+                yard.fault(random.nextInt(4));
+            } else {
+                yard.tick(100);
+            }
+        }
+        Check.due("room: over", yard.isTrue(), true);
+        long made = threads.getThreadAllocatedBytes(self) - before;
+        Check.due("room: at most " + MOST_BYTES + " bytes, made " + made, made <= MOST_BYTES, true);
+        Check.due("room: much was done, " + yard.done(), yard.done() > 60_000, true);
+    }
+}

@@ -894,7 +894,6 @@ public final class TimewarpYard {
 
     /** A process. */
     private static final class Actor {
-        final int number;
         final Rule[] rules = new Rule[KINDS];
         final Condition current = new Condition();
         // That ahead of the first kept event.
@@ -910,7 +909,6 @@ public final class TimewarpYard {
         int lastCommitted = -1;
 
         Actor(int number, Machine host) {
-            this.number = number;
             this.host = host;
             current.start(number);
             ahead.start(number);

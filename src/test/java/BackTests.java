@@ -9,6 +9,7 @@ final class BackTests {
         atTheTimeOfOne();
         silentFromTheLastSaved();
         savedBehindItAreGone();
+        savedAgainAsTheyRun();
         silentSendsNothing();
         silentCountGoesOn();
         countsOnceEach();
@@ -121,6 +122,24 @@ final class BackTests {
         yard.tick(1);
         Check.due("back: nothing is saved silently", yard.saved(1), 2);
         Check.due("back: one more runs silently", yard.silent(), 3);
+    }
+
+    /** Those that were saved before are saved again as they run again, by what is behind then. */
+    private static void savedAgainAsTheyRun() {
+        for (int each = 1; each <= 4; each++) {
+            TimewarpYard yard = Yards.alone(9, 10, 20, 30, 40, 50, 60);
+            yard.saves(0, each);
+            yard.tick(1);
+            Check.due("terms: saved, each " + each, yard.saved(0), 1 + 6 / each);
+            yard.fault(0);
+            Check.due("back: all gone but that ahead, each " + each, yard.saved(0), 1);
+            yard.tick(1);
+            Check.due("terms: saved as they run again, each " + each, yard.saved(0), 1 + 6 / each);
+            yard.message(0, 5, 0, 1L);
+            yard.message(0, 35, 0, 1L);
+            yard.tick(1);
+            Check.due("terms: and a third time, each " + each, yard.saved(0), 1 + 8 / each);
+        }
     }
 
     private static void silentSendsNothing() {

@@ -15,7 +15,10 @@ final class InsideTests {
         try {
             stateIsNotThatOfOneQueue();
             keptOutOfOrder();
+            keptOutOfOrderLater();
             keptBehindOneThatWaits();
+            keptBehindTheFirstOfTwo();
+            oneStaysAlone();
             printedOutOfOrder();
         } catch (ReflectiveOperationException e) {
             throw new IllegalStateException(e);
@@ -55,11 +58,35 @@ final class InsideTests {
         Check.due("P42 kept out of order", yard.isTrue(), false);
     }
 
+    private static void keptOutOfOrderLater() throws ReflectiveOperationException {
+        for (int time = 20; time <= 31; time += 11) {
+            TimewarpYard yard = Yards.alone(9, 10, 20, 30);
+            yard.tick(1);
+            Object first = get(get(actor(yard), "keptOnes"), "first");
+            set(get(first, "next"), "time", time);
+            Check.due("P42 kept out of order behind the first, " + time, yard.isTrue(), time == 20);
+        }
+    }
+
     private static void keptBehindOneThatWaits() throws ReflectiveOperationException {
         TimewarpYard yard = Yards.alone(1, 10, 20);
         yard.tick(1);
         set(get(get(actor(yard), "waitingOnes"), "first"), "time", 9);
         Check.due("P42 kept behind one that waits", yard.isTrue(), false);
+    }
+
+    private static void keptBehindTheFirstOfTwo() throws ReflectiveOperationException {
+        TimewarpYard yard = Yards.alone(1, 10, 20, 30);
+        yard.tick(1);
+        set(get(get(actor(yard), "waitingOnes"), "first"), "time", 9);
+        Check.due("P42 kept behind the first of two that wait", yard.isTrue(), false);
+    }
+
+    /** By the face this can't come about: a message like what stays is always under way. */
+    private static void oneStaysAlone() throws ReflectiveOperationException {
+        TimewarpYard yard = Yards.apart(1, 1);
+        set(get(actor(yard), "strayOnes"), "size", 1);
+        Check.due("P38 one stays alone", yard.isOver(), false);
     }
 
     private static void printedOutOfOrder() throws ReflectiveOperationException {

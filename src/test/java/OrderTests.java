@@ -9,6 +9,7 @@ final class OrderTests {
     static void runAll() {
         timesFirst();
         outsideAheadOfProcesses();
+        outsideAheadBehindACommit();
         sendersByNumbers();
         countsOfOneSender();
         kindsOfOneCount();
@@ -47,6 +48,28 @@ final class OrderTests {
         yard.message(2, 10, 3, 7L);
         yard.tick(1);
         Check.due("order: the sender -1 is ahead of 0", yard.stateAt(2, 11), 7 * 31 + 5);
+    }
+
+    /** Told as messages of processes were committed and taken back: it has the sender -1 all the same. */
+    private static void outsideAheadBehindACommit() {
+        TimewarpYard yard = three();
+        yard.rule(0, 0, '=', 2, 9, 0);
+        for (int time = 1; time < 9; time++) {
+            yard.message(0, time, 0, 1L);
+        }
+        yard.tick(1);
+        yard.fault(0);
+        yard.tick(9);
+        yard.commit();
+        long before = yard.state(2);
+        yard.message(0, 41, 0, 5L);
+        for (int i = 0; i < 9; i++) {
+            yard.message(2, 50, 1, 7L);
+            before = 31 * before + 7;
+        }
+        yard.tick(2);
+        Check.due("order: the sender -1 is ahead, of greater counts", yard.state(2), 31 * before + 5);
+        Check.due("order: as by one queue behind a commit", yard.plain(2), 31 * before + 5);
     }
 
     private static void sendersByNumbers() {

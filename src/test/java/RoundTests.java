@@ -102,11 +102,12 @@ final class RoundTests {
         for (int i = 0; i < 8; i++) {
             BigInteger stream = BigInteger.valueOf(7919L * i + 1);
             long sum = 0;
-            for (int k = 0; k < yard.kept(i); k++) {
+            int kept = yard.kept(i);
+            for (int k = 0; k < kept; k++) {
                 stream = stream.multiply(BigInteger.valueOf(48271)).mod(modulus);
                 sum += stream.mod(BigInteger.valueOf(100)).longValue();
             }
-            Check.due("? many lots run " + i, yard.kept(i) > 90, true);
+            Check.due("? many lots run " + i, kept > 90, true);
             Check.due("? many lots of " + i, yard.state(i), sum);
         }
     }

@@ -16,6 +16,7 @@ final class RunTests {
         safeBesideWhatWaits();
         boldByWhatTakesBack();
         boundOfAll();
+        boundOfSeveralAtOne();
         boundIsTakenAnew();
         boldAndCautiousFromNowOn();
         delayByBothMachines();
@@ -217,6 +218,34 @@ final class RunTests {
         Check.due("P12 the last one", yard.bound(), 51);
         yard.tick(1);
         Check.due("P12 none", yard.bound(), -1);
+    }
+
+    /** Two wait at one process: the earlier one counts, for the bound, the window, what is safe, and a commit. */
+    private static void boundOfSeveralAtOne() {
+        for (int wanted = 0; wanted < 3; wanted++) {
+            TimewarpYard yard = Yards.apart(2, 1);
+            for (int time : new int[] {10, 20, 40}) {
+                yard.message(1, time, 0, 1L);
+            }
+            yard.message(0, 9, 0, 1L);
+            yard.tick(1);
+            Check.due("P20 two wait at one", yard.waiting(1), 2);
+            Check.due("P12 the earlier of both", yard.bound(), 20);
+            yard.message(0, 31, 0, 1L);
+            yard.window(wanted == 0 ? 10 : 200);
+            yard.cautious(0, wanted == 1);
+            yard.tick(1);
+            Check.due("bold: by the earlier, or safe, or far above it", yard.kept(0), wanted == 2 ? 2 : 1);
+        }
+        TimewarpYard yard = Yards.machines(1, 9);
+        yard.process(0);
+        yard.process(1);
+        for (int time : new int[] {10, 20, 40}) {
+            yard.message(0, time, 0, 1L);
+            yard.message(1, time + 1, 0, 1L);
+        }
+        yard.tick(1);
+        Check.due("P30 below the earlier of both", yard.commit(), 2);
     }
 
     /** "each time": the bound rises with each event that is run in a tick, and so does what may run. */

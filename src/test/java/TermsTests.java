@@ -15,6 +15,7 @@ final class TermsTests {
         sendsAnotherAgain();
         takenBackAtOnce();
         rememberedIsTakenBackWithItsEvent();
+        othersRememberNothing();
         lotsGoBackToo();
         behindTheHorizonIsNotCounted();
         likeOnesAreTakenOneByOne();
@@ -193,6 +194,37 @@ final class TermsTests {
             yard.tick(4);
             Check.due("taken away: state", yard.state(2), 6);
             Check.due("taken away: true", yard.isTrue(), true);
+        }
+    }
+
+    /** Others come behind those that were taken away with what was remembered, by one more or less. */
+    private static void othersRememberNothing() {
+        for (int more = 0; more < 2; more++) {
+            TimewarpYard yard = Yards.machines(9, 1);
+            yard.process(0);
+            yard.process(1);
+            yard.rule(0, 0, '+', 1, 10, 0);
+            yard.rule(0, 1, '+', 1, 99, 1);
+            yard.rule(1, 0, '+', 1, 10, 2);
+            yard.lazy(1, true);
+            for (int time = 10; time < 14; time++) {
+                yard.message(0, time, 0, 5L);
+            }
+            yard.tick(9);
+            yard.message(0, 5, 2, 1L);
+            yard.tick(9);
+            yard.tick(9);
+            Check.due("others: taken away with what was remembered", yard.antis() > 4, true);
+            if (more == 1) {
+                yard.message(0, 100, 1, 0L);
+                yard.tick(1);
+            }
+            for (int i = 0; i < 15; i++) {
+                yard.message(1, 60 + i, 3, 0L);
+            }
+            yard.tick(1);
+            Check.due("others: wait", yard.waiting(1) >= 14, true);
+            Check.due("others: nothing is remembered with them", yard.remembered(1), 0);
         }
     }
 

@@ -14,6 +14,7 @@ final class BackTests {
         silentCountGoesOn();
         countsOnceEach();
         takesOneThatWaits();
+        takesOneThatWaitsFirst();
         takesEachOneKept();
         takesTheWholeAlone();
         staysForOneLikeIt();
@@ -218,6 +219,24 @@ final class BackTests {
         Check.due("P25 without a back", yard.backs(1), 0);
         Check.due("P27 they were not kept", yard.undone(), 3);
         Check.due("back: none stays", yard.strays(1), 0);
+    }
+
+    /** One like it is kept, another one waits, as there is no room: what takes back takes the one that waits. */
+    private static void takesOneThatWaitsFirst() {
+        TimewarpYard yard = sentAndHeld(50);
+        yard.tick(1);
+        yard.room(1, 1);
+        yard.delay(0, 1, 5);
+        yard.fault(0);
+        yard.delay(0, 1, 1);
+        yard.tick(2);
+        Check.due("back: one is kept", yard.kept(1), 1);
+        Check.due("back: one like it waits", yard.waiting(1), 1);
+        yard.tick(3);
+        Check.due("back: that one is gone", yard.waiting(1), 0);
+        Check.due("back: the kept one is not", yard.kept(1), 1);
+        Check.due("back: without a back", yard.backs(1), 0);
+        Check.due("P27 the other process's alone", yard.undone(), 1);
     }
 
     /** A late one without a message of its own lets the events behind it be taken back: the last ones of three. */

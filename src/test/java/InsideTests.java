@@ -6,7 +6,8 @@ import java.util.Random;
 
 /** What the face cannot show: that isTrue sees what is wrong, and how much is made in a long run. */
 final class InsideTests {
-    private static final long MOST_BYTES = 8_000_000L;
+    private static final long MOST_BYTES = 2_000_000L;
+    private static final long FEW_BYTES = 60_000L;
 
     private InsideTests() {
     }
@@ -24,6 +25,8 @@ final class InsideTests {
             throw new IllegalStateException(e);
         }
         littleIsMade();
+        littleIsMadeByOneQueue();
+        littleIsMadeWithCommits();
     }
 
     private static Object get(Object from, String name) throws ReflectiveOperationException {
@@ -100,12 +103,48 @@ final class InsideTests {
         Check.due("P42 printed out of order", yard.isTrue(), false);
     }
 
+    private static long made() {
+        ThreadMXBean threads = (ThreadMXBean) ManagementFactory.getThreadMXBean();
+        return threads.getThreadAllocatedBytes(Thread.currentThread().getId());
+    }
+
+    /** A process that sends itself a message a time later, for all times. */
+    private static TimewarpYard chained() {
+        TimewarpYard yard = Yards.apart(1, 9);
+        yard.rule(0, 0, '+', 0, 1, 0);
+        return yard;
+    }
+
+    private static void littleIsMadeByOneQueue() {
+        TimewarpYard yard = chained();
+        long before = made();
+        for (int i = 0; i < 40; i++) {
+            yard.message(0, 0, 0, 1L);
+            yard.plain(0);
+        }
+        long made = made() - before;
+        Check.due("room: one queue anew, forty times, made " + made, made <= FEW_BYTES, true);
+    }
+
+    private static void littleIsMadeWithCommits() {
+        TimewarpYard yard = chained();
+        for (int i = 0; i < 40; i++) {
+            yard.message(0, 0, 0, 1L);
+        }
+        long before = made();
+        for (int i = 0; i < 100; i++) {
+            yard.tick(10);
+            yard.commit();
+        }
+        long made = made() - before;
+        Check.due("room: eight thousand events, all committed", yard.done() > 8000 && yard.isOver(), true);
+        Check.due("room: those committed are used again, made " + made, made <= FEW_BYTES, true);
+    }
+
     /** Rows are used again: a run of all calls, with faults and ways of all lengths, fits in one small room. */
     private static void littleIsMade() {
-        ThreadMXBean threads = (ThreadMXBean) ManagementFactory.getThreadMXBean();
-        long self = Thread.currentThread().getId();
         Random random = new Random(7);
-        long before = threads.getThreadAllocatedBytes(self);
+        long before = made();
         TimewarpYard yard = Yards.apart(4, 9);
         for (int i = 0; i < 16; i++) {
             yard.rule(i / 4, i % 4, "+-*=?".charAt(i % 5), random.nextInt(4), 1, random.nextInt(4));
@@ -122,7 +161,7 @@ final class InsideTests {
             }
         }
         Check.due("room: over", yard.isTrue(), true);
-        long made = threads.getThreadAllocatedBytes(self) - before;
+        long made = made() - before;
         Check.due("room: at most " + MOST_BYTES + " bytes, made " + made, made <= MOST_BYTES, true);
         Check.due("room: much was done, " + yard.done(), yard.done() > 60_000, true);
     }

@@ -836,10 +836,6 @@ public final class TimewarpYard {
             size++;
         }
 
-        void prepend(Event event) {
-            putAhead(event, first);
-        }
-
         void putAhead(Event event, Event place) {
             if (place == null) {
                 append(event);
@@ -993,7 +989,7 @@ public final class TimewarpYard {
             for (int left = keptOnes.size; left > 0 && !isThere && keptOnes.last != null; left--) {
                 Event event = keptOnes.last;
                 keptOnes.takeOut(event);
-                waitingOnes.prepend(event);
+                waitingOnes.putAhead(event, waitingOnes.first);
                 count++;
                 isThere = event == from;
             }

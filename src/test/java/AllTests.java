@@ -10,6 +10,7 @@ public final class AllTests {
         TermsTests.runAll();
         edges();
         InsideTests.runAll();
+        ReadmeTests.runAll();
         RandomRuns.runAll(args.length > 0 ? Integer.parseInt(args[0]) : 2000);
         Check.tell();
         if (Check.failures() > 0) {

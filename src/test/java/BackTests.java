@@ -25,11 +25,14 @@ final class BackTests {
         sameButForItsCount();
         sameButForItsValue();
         rememberedStaysWithoutLaziness();
+        rememberedIsTakenBackWithoutLaziness();
+        takenAwayWhereItIsLazy();
         rememberedStaysInAFault();
         rememberedMovesAlong();
         movesWithAll();
         faultGoesToWhatWasCommitted();
         faultOfOneMachine();
+        faultByProcesses();
         faultLeavesWhatWaits();
     }
 
@@ -301,6 +304,11 @@ final class BackTests {
         yard.tick(1);
         Check.due("back: it stays", yard.strays(1), 1);
         Check.due("P41 what stays is not under way", yard.flying(true), 0);
+        long sum = 7;
+        for (long part : new long[] {16, 3, 0, 0, 0, 0, 2, 1}) {
+            sum = 31 * sum + part;
+        }
+        Check.due("P41 nor in the sum", yard.checksum(), sum);
         yard.message(1, 30, 0, 7L);
         yard.tick(1);
         Check.due("back: one of another sender is not like it", yard.kept(1), 1);
@@ -434,6 +442,60 @@ final class BackTests {
         }
     }
 
+    /** "As an event that waits is taken away, what is remembered with it is taken back, too": lazy by then or not. */
+    private static void rememberedIsTakenBackWithoutLaziness() {
+        for (int lazy = 0; lazy < 2; lazy++) {
+            TimewarpYard yard = sentOn();
+            yard.tick(1);
+            yard.message(0, 5, 1, 1L);
+            for (int time = 1; time <= 3; time++) {
+                yard.message(1, time, 1, 0L);
+            }
+            yard.room(1, 1);
+            yard.delay(0, 1, 2);
+            yard.tick(1);
+            Check.due("P23 remembered", yard.remembered(1), 1);
+            Check.due("P29 the one for it", yard.antis(), 1);
+            yard.lazy(1, lazy == 1);
+            yard.tick(1);
+            Check.due("P23 still remembered", yard.remembered(1), 1);
+            yard.tick(1);
+            Check.due("P23 taken away", yard.remembered(1), 0);
+            Check.due("P29 what it sent too, lazy " + lazy, yard.antis(), 2);
+            Check.due("P20 nothing waits there but what was sent anew", yard.waiting(1) + yard.kept(1), 4);
+        }
+    }
+
+    /** 0 sends to 1, which is lazy and sends to 2: its first event has the time 20. */
+    private static TimewarpYard sentOn() {
+        TimewarpYard yard = Yards.apart(3, 9);
+        yard.rule(0, 0, '+', 1, 10, 0);
+        yard.rule(1, 0, '=', 2, 10, 0);
+        yard.lazy(1, true);
+        yard.message(0, 10, 0, 7L);
+        yard.tick(2);
+        return yard;
+    }
+
+    /** One that is kept is taken away: what it sent is taken back, what those behind it sent is remembered. */
+    private static void takenAwayWhereItIsLazy() {
+        TimewarpYard yard = sentOn();
+        yard.message(1, 30, 0, 8L);
+        yard.message(1, 40, 0, 9L);
+        yard.tick(2);
+        Check.due("lazy: three kept", yard.kept(1), 3);
+        Check.due("lazy: three sent", yard.kept(2), 3);
+        yard.fault(0);
+        yard.window(0);
+        yard.tick(1);
+        Check.due("P23 two remember", yard.remembered(1), 2);
+        Check.due("P20 two wait", yard.waiting(1), 2);
+        Check.due("P29 the one for it, and that for what it sent", yard.antis(), 2);
+        yard.tick(9);
+        Check.due("P29 those behind it sent the same again", yard.antis(), 2);
+        Check.due("P42 over, and as by one queue", yard.isOver() && yard.isTrue(), true);
+    }
+
     /** "what they sent is taken back": what waits kept nothing, and remembers still. */
     private static void rememberedStaysInAFault() {
         TimewarpYard yard = sentAndHeld(50);
@@ -512,6 +574,26 @@ final class BackTests {
         Check.due("P25 one back each", yard.backs(0) + yard.backs(1) + yard.backs(2), 3);
         Check.due("P27 all", yard.undone(), 6);
         Check.due("P20 all wait", yard.waiting(0) + yard.waiting(1) + yard.waiting(2), 6);
+    }
+
+    /** Of two processes on the machine the lesser one's is taken back first: 30 ahead of 20 makes two backs. */
+    private static void faultByProcesses() {
+        for (int way = 0; way < 2; way++) {
+            TimewarpYard yard = Yards.machines(9, 9);
+            yard.process(0);
+            yard.process(0);
+            yard.process(1);
+            yard.rule(0, 0, '+', 2, 10, 0);
+            yard.rule(1, 0, '+', 2, 10, 0);
+            yard.message(0, way == 0 ? 20 : 10, 0, 1L);
+            yard.message(1, way == 0 ? 10 : 20, 0, 1L);
+            yard.tick(2);
+            yard.window(0);
+            yard.fault(0);
+            yard.tick(1);
+            Check.due("P35 by processes, way " + way, yard.backs(2), 2 - way);
+            Check.due("P35 both are taken away, way " + way, yard.waiting(2) + yard.kept(2), 0);
+        }
     }
 
     private static void faultLeavesWhatWaits() {

@@ -15,11 +15,13 @@ final class InsideTests {
     static void runAll() {
         try {
             stateIsNotThatOfOneQueue();
+            stateOfTheSecondProcess();
             keptOutOfOrder();
             keptOutOfOrderLater();
             keptBehindOneThatWaits();
             keptBehindTheFirstOfTwo();
             oneStaysAlone();
+            whatStaysDoesNotCount();
             printedOutOfOrder();
         } catch (ReflectiveOperationException e) {
             throw new IllegalStateException(e);
@@ -52,6 +54,16 @@ final class InsideTests {
         Check.due("P42 another state", yard.isTrue(), false);
         yard.message(0, 30, 0, 0L);
         Check.due("P42 not while something is under way", yard.isTrue(), true);
+    }
+
+    private static void stateOfTheSecondProcess() throws ReflectiveOperationException {
+        TimewarpYard yard = Yards.apart(2, 9);
+        yard.message(1, 10, 0, 4L);
+        yard.tick(1);
+        Check.due("P42 the second process's state", yard.isTrue(), true);
+        Object second = ((ArrayList<?>) get(yard, "actors")).get(1);
+        set(get(second, "current"), "state", 5L);
+        Check.due("P42 another state of the second process", yard.isTrue(), false);
     }
 
     private static void keptOutOfOrder() throws ReflectiveOperationException {
@@ -90,6 +102,27 @@ final class InsideTests {
         TimewarpYard yard = Yards.apart(1, 1);
         set(get(actor(yard), "strayOnes"), "size", 1);
         Check.due("P38 one stays alone", yard.isOver(), false);
+    }
+
+    /** By the face this can't be told: of the time of what stays there is always a message under way. */
+    private static void whatStaysDoesNotCount() throws ReflectiveOperationException {
+        TimewarpYard yard = Yards.apart(2, 9);
+        yard.rule(0, 0, '=', 1, 10, 0);
+        yard.delay(0, 1, 20);
+        yard.message(0, 20, 0, 7L);
+        yard.tick(1);
+        yard.delay(0, 1, 1);
+        yard.fault(0);
+        yard.tick(1);
+        Object second = ((ArrayList<?>) get(yard, "actors")).get(1);
+        Check.due("P21 one stays", yard.strays(1), 1);
+        set(get(get(second, "strayOnes"), "first"), "time", 5);
+        Check.due("P12 what stays does not count", yard.bound(), 30);
+        yard.message(0, 15, 1, 0L);
+        yard.cautious(0, true);
+        yard.window(0);
+        Check.due("P15 nor for what is safe or in the window", yard.tick(1), 3);
+        Check.due("P30 nor for a commit", yard.commit(), 2);
     }
 
     private static void printedOutOfOrder() throws ReflectiveOperationException {

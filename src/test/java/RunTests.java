@@ -8,6 +8,7 @@ final class RunTests {
         comesAsItWasSent();
         outsideBehindWhatWasSent();
         speedOverAllProcesses();
+        speedOfThoseThatRunWhatIsSafe();
         firstIsNotAllowedNorAnyBehind();
         laterMachineSeesWhatWasSent();
         earlierMachineDoesNot();
@@ -86,6 +87,17 @@ final class RunTests {
         Check.due("ticks: two of three for the lesser", yard.kept(0), 2);
         Check.due("ticks: one of three for the other", yard.kept(1), 1);
         Check.due("ticks: the other machine by itself", yard.kept(2), 3);
+    }
+
+    /** A cautious machine, and one without room, run as many as their speed, if each of these is safe. */
+    private static void speedOfThoseThatRunWhatIsSafe() {
+        for (int way = 0; way < 2; way++) {
+            TimewarpYard yard = Yards.alone(3, 10, 20, 30, 40, 50);
+            yard.cautious(0, way == 0);
+            yard.room(0, way == 0 ? 999 : 1);
+            Check.due("ticks: three that are safe, way " + way, yard.tick(1), 3);
+            Check.due("ticks: and two, way " + way, yard.tick(1), 2);
+        }
     }
 
     /** The window keeps the first one, so those behind it wait though there is speed left. */
